@@ -630,15 +630,16 @@ public final class DuelSeconds {
             if (in(open, b)) {
                 return b;
             }
-            int ofFirst = friendAmong(a, open);
-            return ofFirst != NONE ? ofFirst : friendAmong(b, open);
-        }
-
-        private int friendAmong(int p, int open) {
-            if (in(open, firstFriend[p])) {
-                return firstFriend[p];
+            if (in(open, firstFriend[a])) {
+                return firstFriend[a];
             }
-            return in(open, secondFriend[p]) ? secondFriend[p] : NONE;
+            if (in(open, secondFriend[a])) {
+                return secondFriend[a];
+            }
+            if (in(open, firstFriend[b])) {
+                return firstFriend[b];
+            }
+            return in(open, secondFriend[b]) ? secondFriend[b] : NONE;
         }
     }
 

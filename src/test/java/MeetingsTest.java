@@ -14,6 +14,7 @@ public final class MeetingsTest {
         likeHonour();
         takenBehindTheLastDay();
         secondOfSecond();
+        chainUpToTheLastDawn();
         due.end();
     }
 
@@ -181,5 +182,35 @@ public final class MeetingsTest {
         due.is("nobody: second(2, 0, 0)", x.second(2, 0, 0), 1);
         x.arrest(1, true);
         due.is("nobody: second(2, 0, 0)", x.second(2, 0, 0), -9);
+    }
+
+    /**
+     * From dawn 30 on 2, 1, 0 are hurt by 1, in turn, by 4 and 3, in turn, and each time the next one's
+     * chain finds who is free again just now.
+     */
+    private static void chainUpToTheLastDawn() {
+        DuelSeconds x = Due.with("d5;o714;h720;h700;h810;h823");
+        x.insult(0, 1, 29, 9);
+        due.is("meetings(29)", x.meetings(29), 0);
+        due.is("meetings(58)", x.meetings(58), 29);
+        due.is("meetings(59)", x.meetings(59), 30);
+        due.is("many(3)", x.many(3), 30);
+        due.met(x, 0, 30, 2, 4, 1, 0, 2);
+        due.met(x, 1, 31, 1, 3, 0, 4, 1);
+        due.met(x, 2, 32, 0, 4, 2, 3, 0);
+        due.met(x, 3, 33, 2, 3, 1, 4, 2);
+        due.met(x, 4, 34, 1, 4, 0, 3, 1);
+        due.met(x, 5, 35, 0, 3, 2, 4, 0);
+        due.met(x, 6, 36, 2, 4, 1, 3, 2);
+        due.met(x, 29, 59, 0, 3, 2, 4, 0);
+        due.is("met(30, 0)", x.met(30, 0), -1);
+        due.is("free(0, 59)", x.free(0, 59), 1);
+        due.is("free(1, 59)", x.free(1, 59), 0);
+        due.is("free(2, 59)", x.free(2, 59), 0);
+        due.is("second(2, 4, 59)", x.second(2, 4, 59), 0);
+        due.is("worth(0)", x.worth(0), 1030);
+        due.is("upper odds(2, 30)", x.odds(2, 30, 0), 1);
+        due.is("upper odds(0, 31)", x.odds(0, 31, 0), 0);
+        due.is("upper odds(0, 32)", x.odds(0, 32, 0), 1);
     }
 }

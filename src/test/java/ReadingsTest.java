@@ -11,6 +11,7 @@ public final class ReadingsTest {
         neverAndCaught();
         byHowAllIs();
         caughtOfArrested();
+        atTheLastDawn();
         rowRefusals();
         row();
         due.end();
@@ -100,6 +101,20 @@ public final class ReadingsTest {
         due.is("who is arrested, too", x.caught(), 3);
         due.is("nobody is let go", x.ofPerson(0, 5), 1);
         due.is("nobody is caught by it", x.ofPerson(1, 5), 0);
+    }
+
+    /** The chain of MeetingsTest, in which 0 and 3 meet at dawn 59; 5 is nobody's friend. */
+    private static void atTheLastDawn() {
+        DuelSeconds x = Due.with("d6;o714;h720;h700;h810;h823;g100");
+        x.insult(0, 1, 29, 9);
+        x.insult(0, 5, 0, 8);
+        x.reading(0, 59, true);
+        x.reading(3, 59, true);
+        x.reading(4, 59, false);
+        due.is("not without insult 0", x.never(), 2);
+        due.is("so with 5 arrested", x.caught() >> 5, 1);
+        due.is("not so with 0 arrested", x.caught() & 1, 0);
+        due.is("not so with 3 arrested", x.caught() >> 3 & 1, 0);
     }
 
     private static void rowRefusals() {
