@@ -1,16 +1,27 @@
 /** What the tests share: counting wrong answers, and putting texts on sheets. */
 final class Due {
+    /** Four gentlemen, see the tests that use it. */
+    static final String FOUR = "d4;g512;g423;g330;g201";
+    static final int LEAST = Integer.MIN_VALUE, MOST = Integer.MAX_VALUE;
+    static final long LOST = Long.MIN_VALUE;
+
     private final String name;
+    private String sentence = "";
     private int wrong;
 
     Due(String name) {
         this.name = name;
     }
 
+    /** The words of the document that are tested from here on, and where they stand in it. */
+    void says(String where, String words) {
+        sentence = " (" + where + ": " + words + ")";
+    }
+
     void is(String call, long got, long want) {
         if (got != want) {
             wrong++;
-            System.out.println(name + ": " + call + " answered " + got + ", due is " + want);
+            System.out.println(name + ": " + call + " answered " + got + ", due is " + want + sentence);
         }
     }
 

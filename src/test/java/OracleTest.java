@@ -31,6 +31,7 @@ public final class OracleTest {
                 step();
             }
         }
+        manyMeetings();
         if (args.length > 0) {
             System.out.println(seen);
         }
@@ -38,6 +39,37 @@ public final class OracleTest {
             System.exit(1);
         }
         System.out.println("OracleTest: all answers are alike");
+    }
+
+    /** The run with the most meetings that a search found: 66. */
+    private static void manyMeetings() {
+        String text = "d6;o821;o840;h953;h650;h720;g910";
+        int[][] insults = {{3, 4, 26}, {3, 0, 5}, {0, 3, 17}, {3, 0, 23}, {0, 5, 0}, {4, 1, 8}, {0, 4, 14}, {3, 0, 29}};
+        x = new DuelSeconds();
+        o = new Oracle();
+        calls = 0;
+        call(18, 0, 0, text.length(), 0, 0);
+        for (int i = 0; i < text.length(); i++) {
+            call(20, 0, i, text.charAt(i), 0, 0);
+        }
+        call(0, 0, 0, 0, text.length(), 0);
+        for (int[] one : insults) {
+            call(2, one[0], one[1], one[2], 9, 0);
+        }
+        call(28, 3, 0, 0, 0, 0);
+        call(5, 59, 0, 0, 0, 0);
+        for (int k = 0; k <= 66; k++) {
+            for (int what = 0; what < 6; what++) {
+                call(6, k, what, 0, 0, 0);
+            }
+        }
+        for (int k = 0; k < insults.length; k++) {
+            call(9, k, 0, 0, 0, 0);
+        }
+        if (x.many(3) != 66) {
+            wrong++;
+            System.out.println("there are " + x.many(3) + " meetings, due are 66");
+        }
     }
 
     private static int below(int n) {
